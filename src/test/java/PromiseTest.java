@@ -329,6 +329,8 @@ public final class PromiseTest {
         x.fold(5);
         x.key(0, 3);
         x.ladder(4, true);
+        x.ladder(0, true);
+        x.door(0, 3);
         x.door(14, 4);
         x.step(4);
         x.step(1);
@@ -346,7 +348,8 @@ public final class PromiseTest {
         due("12: second door", x.cell(3, 1), 3);
         due("12: doors", x.count(1), 2);
         due("12: ladders", x.cell(1, 2) + x.cell(2, 2) + x.cell(15, 2), 3);
-        due("12: no old ladder", x.cell(4, 2), 0);
+        due("12: no old ladder", x.cell(4, 2) + x.cell(0, 2), 0);
+        due("12: no old door", x.cell(0, 1) + x.cell(14, 1), 0);
         x.undo();
         due("12: undone", x.walker(1), 3);
         due("12: undone, door", x.cell(14, 1), 4);
@@ -486,6 +489,10 @@ public final class PromiseTest {
         due("17: most steps", y.count(4), 3);
         y.stand(2);
         due("17: most steps from 2", y.count(4), 2);
+        y.stand(0);
+        y.door(0, 1);
+        due("17: no steps at all", y.count(4), 0);
+        due("17: its own cell alone", y.count(3), 1);
     }
 
     private static void promise18Refusal() {
@@ -555,6 +562,13 @@ public final class PromiseTest {
         due("21: most cells before fewest steps", y.bestFold(), 6);
         y.door(5, 0);
         due("21: without the second door", y.bestFold(), 5);
+        FoldedKeys z = made(".|");
+        for (int cell = 0; cell < 14; cell++) {
+            z.door(cell, 1);
+        }
+        due("21: the longest", z.bestFold(), 8);
+        z.door(14, 1);
+        due("21: the least of equal ones", z.bestFold(), 2);
     }
 
     private static void promise22Reached() {
