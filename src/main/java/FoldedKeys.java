@@ -567,8 +567,11 @@ public final class FoldedKeys {
         }
 
         private int byLadder(int cell, int partner) {
-            boolean there = isCell(partner) && (ladderIn(cell) != 0 || ladderIn(partner) != 0);
-            return there ? partner : NONE;
+            // Spelled out, as the search calls this deep enough already (LANGUAGE.md, rule 11).
+            if (cell < 0 || cell >= CELLS || partner < 0 || partner >= CELLS) {
+                return NONE;
+            }
+            return ladders[cell] != 0 || ladders[partner] != 0 ? partner : NONE;
         }
 
         /** The code after a step from a code, or the reason against it, negated. */
