@@ -1,81 +1,5 @@
 /** For each promise of the document: ordinary inputs, edges and wrong inputs. */
-public final class PromiseTest {
-    private static final Class<?> PLACE = IndexOutOfBoundsException.class;
-    private static final Class<?> ARGUMENT = IllegalArgumentException.class;
-    private static final Class<?> STATE = IllegalStateException.class;
-
-    private static int wrong = 0;
-    private static int asked = 0;
-
-    private interface Call {
-        void run();
-    }
-
-    private static void due(String what, long got, long want) {
-        asked++;
-        if (got != want) {
-            wrong++;
-            System.out.println(what + " answered " + got + ", due is " + want);
-        }
-    }
-
-    /** The call throws just this class, and changes nothing. */
-    private static void refused(String what, FoldedKeys x, Class<?> want, Call call) {
-        asked++;
-        long before = x.digest();
-        Class<?> got = null;
-        try {
-            call.run();
-        } catch (RuntimeException e) {
-            got = e.getClass();
-        }
-        if (got != want) {
-            wrong++;
-            System.out.println(what + " threw " + got + ", due is " + want);
-        }
-        due(what + " changes nothing", x.digest(), before);
-    }
-
-    private static void type(FoldedKeys x, String text) {
-        x.clearBuffer();
-        for (int index = 0; index < text.length(); index++) {
-            x.append(text.charAt(index));
-        }
-    }
-
-    /** The corridor that begins with this text; the rest are bare cells. */
-    private static FoldedKeys made(String text) {
-        FoldedKeys x = new FoldedKeys();
-        type(x, text);
-        int cells = 0;
-        for (char sign : text.toCharArray()) {
-            cells += sign == '.' || Character.isDigit(sign) ? 1 : 0;
-        }
-        for (; cells < 16; cells++) {
-            x.append('.');
-        }
-        x.corridor();
-        return x;
-    }
-
-    private static String planTo(FoldedKeys x, int cell) {
-        StringBuilder steps = new StringBuilder();
-        for (int place = 0; x.plan(cell, place) != FoldedKeys.NONE; place++) {
-            steps.append(x.plan(cell, place));
-        }
-        return steps.toString();
-    }
-
-    private static void duePlan(String what, FoldedKeys x, int cell, String want) {
-        asked++;
-        String got = planTo(x, cell);
-        if (!got.equals(want)) {
-            wrong++;
-            System.out.println(what + ": the plan to " + cell + " is " + got + ", due is " + want);
-        }
-        due(what + ": its length", x.cell(cell, 6), want.length());
-    }
-
+public final class PromiseTest extends Checks {
     private static void promise1NewObject() {
         FoldedKeys x = new FoldedKeys();
         due("1: NONE", FoldedKeys.NONE, -1);
@@ -620,8 +544,9 @@ public final class PromiseTest {
         FoldedKeys y = new FoldedKeys();
         due("23: new", y.digest(), digestOf(y, ""));
         for (int cell = 14; cell >= 0; cell--) {
-            y.door(cell, 1);
-            due("23: " + (cell + 1) + " cells", y.digest(), digestOf(y, ""));
+            FoldedKeys z = new FoldedKeys();
+            z.door(cell, 1);
+            due("23: " + (cell + 1) + " cells", z.digest(), digestOf(z, ""));
         }
     }
 
@@ -649,9 +574,6 @@ public final class PromiseTest {
         promise21BestFold();
         promise22Reached();
         promise23Digest();
-        System.out.println(asked + " asked, " + wrong + " wrong");
-        if (wrong != 0) {
-            System.exit(1);
-        }
+        tell();
     }
 }
