@@ -550,7 +550,24 @@ public final class PromiseTest extends Checks {
         }
     }
 
+    private static void examplesOfTheReadme() {
+        FoldedKeys x = new FoldedKeys();
+        x.key(1, 2);
+        x.door(3, 2);
+        due("README: steps", x.cell(4, 6), 5);
+        duePlan("README", x, 4, "14111");
+        due("README: walk", x.walk(4), 5);
+        due("README: at", x.walker(0), 4);
+        due("README: undo", x.undo(), 2);
+        due("README: back", x.walker(0), 0);
+        type(x, "1|a..2c............");
+        due("README: error", x.firstError(), 19);
+        due("README: keys", x.corridor(), 2);
+        due("README: the buffer is cleared", x.clearBuffer(), 0);
+    }
+
     public static void main(String[] args) {
+        examplesOfTheReadme();
         promise1NewObject();
         promise2Door();
         promise3Key();
